@@ -1,6 +1,5 @@
 /** For each promise of the document: ordinary inputs, the edges that it names, wrong inputs; answers worked out by hand. */
-public final class PromiseTest {
-    private static final int NONE = -1, UNKNOWN = -2, OUTSIDE = -3, NOT = -4, FULL = -5, NULL = -11, KIND = -12, EMPTY = -13, ROOM = -14;
+public final class PromiseTest extends Rig {
     private static final int[] WRONG = {Integer.MIN_VALUE, -1, 1000, Integer.MAX_VALUE};
 
     // Times 2, 1, 12/5, 4/11, 3; basins {0} {1, 2} {3, 4}; 0 drowned in 2 just so, 2 and 4 free.
@@ -9,66 +8,12 @@ public final class PromiseTest {
     private static final String CHAIN = "section 10 10;section 10 10;section 10 10;section 10 10;section 10 10;"
         + "joint 0 1;joint 1 2;joint 2 3;joint 3 4";
 
-    private static int wrong = 0;
-    private static String promise = "";
-
-    private static void due(String call, int got, int want) {
-        if (got != want) {
-            wrong++;
-            System.out.println(promise + ": " + call + " answered " + got + ", due is " + want);
-        }
-    }
-
-    private static void dueText(String text, int place) {
-        FeedCheck x = new FeedCheck();
-        dueText(x, text, place);
-    }
-
-    /** The fault of a text, and that casting() agrees; a text with a fault stays, and is erased here. */
-    private static void dueText(FeedCheck x, String text, int place) {
-        type(x, text);
-        due("fault of '" + text + "'", x.fault(), place);
-        if (place != NONE) {
-            due("casting of '" + text + "'", x.casting(), NOT);
-            due("letters of '" + text + "'", x.count(12), text.length());
-        }
-        x.erase();
-    }
-
-    private static void type(FeedCheck x, String text) {
-        for (int i = 0; i < text.length(); i++) {
-            x.write(text.charAt(i));
-        }
-    }
-
-    private static FeedCheck cast(String text) {
-        FeedCheck x = new FeedCheck();
-        return cast(x, text);
-    }
-
-    private static FeedCheck cast(FeedCheck x, String text) {
-        type(x, text);
-        due("casting of '" + text + "'", x.casting(), text.split(";").length);
-        return x;
-    }
-
-    private static String repeat(String part, String between, int n) {
-        StringBuilder all = new StringBuilder(part);
-        for (int i = 1; i < n; i++) {
-            all.append(between).append(part);
-        }
-        return all.toString();
-    }
-
     public static void main(String[] args) {
         newObject(); write(); erase(); faultForms(); faultBounds(); faultLimits(); casting(); castingAfterCalls();
         section(); ties(); top(); drowned(); fed(); riser(); put(); take(); move(); chill(); undo(); keep(); back();
         order(); pass(); need(); best(); least(); bin(); addWhole(); addPair(); find(); pop(); sort(); pour(); sum();
         drop(); count(); refusalOrder();
-        System.out.println(wrong == 0 ? "all promises are kept" : wrong + " answers are not as due");
-        if (wrong != 0) {
-            System.exit(1);
-        }
+        end("the promises");
     }
 
     private static void newObject() {
