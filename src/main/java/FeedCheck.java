@@ -858,11 +858,19 @@ public final class FeedCheck {
             return true;
         }
 
+        /** The latest neighbour, if it is later; NONE from a top. */
+        private int nextUp(int s) {
+            int next = latestNeighbour(s);
+            return next != NONE && isSooner(s, next) ? next : NONE;
+        }
+
         private void climb(int s) {
             int at = s;
+            int next = nextUp(at);
             int done = 0;
-            while (done < MOST_SECTIONS && !isTop(at)) {
-                at = latestNeighbour(at);
+            while (done < MOST_SECTIONS && next != NONE) {
+                at = next;
+                next = nextUp(at);
                 done++;
             }
             summit[s] = at;

@@ -217,6 +217,12 @@ public final class DoneBoundaryTest extends Rig {
         due("as told", fit(x), "chills 4 0 0 risers 0/1/1 1/2/2 2/3/3");
         x.chill(0, 9);
         due("a new one behind", x.undo(), 0);
+        FeedCheck six = sixRisers();
+        six.take(0);
+        six.put(0, 98, 99);
+        due("a sixth again", six.undo(), 3);
+        due("the first of six", six.undo(), 2);
+        due("all six", fit(six), "chills 0 risers 0/1/1 0/1/2 0/1/3 0/1/4 0/1/5 0/1/6");
         due("as told", fit(x), "chills 4 0 0 risers 0/1/1 1/2/2 2/3/3");
     }
 
@@ -340,7 +346,11 @@ public final class DoneBoundaryTest extends Rig {
             x.take(r);
         }
         x.keep(1);
+        for (int r = 0; r < 6; r++) {
+            x.put(0, 98, 99);
+        }
         due("six", x.back(0), 6);
+        due("all six", fit(x), "chills 0 risers 0/1/1 0/1/2 0/1/3 0/1/4 0/1/5 0/1/6");
         due("none", x.back(1), 0);
     }
 

@@ -76,6 +76,9 @@ public final class FaceTest {
         due("at most twelve classes", inside.length + 1 <= 12, true);
         for (Class<?> c : inside) {
             due(c + " is static and not public", Modifier.isStatic(c.getModifiers()) && !Modifier.isPublic(c.getModifiers()), true);
+            for (Method m : c.getDeclaredMethods()) {
+                due(m + " bears no public name", Arrays.stream(METHODS).anyMatch(p -> p.startsWith(m.getName() + "(")), false);
+            }
             long own = Arrays.stream(c.getDeclaredFields()).filter(f -> !Modifier.isStatic(f.getModifiers())).count();
             due(c + " has at most twenty fields", own <= 20, true);
             for (Field f : c.getDeclaredFields()) {

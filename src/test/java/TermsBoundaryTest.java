@@ -113,6 +113,7 @@ public final class TermsBoundaryTest extends Rig {
         // 1 is of like time, but of the greater number: not later than 0, and just as high.
         due("100: a pass of the top's own time", cast("section 9 9;section 9 9;section 9 1;joint 0 1;joint 1 2;rule 6 5 100").top(0, 1), 2);
         due("100: a pass a little lower", cast("section 99 98;section 9 9;section 9 1;joint 0 1;joint 1 2;rule 6 5 100").top(0, 1), NONE);
+        due("100: a hair lower, 97 by 98 of 98 by 99", cast("section 98 99;section 97 98;section 9 1;joint 0 1;joint 1 2;rule 6 5 100").top(0, 1), NONE);
     }
 
     // ---- times
@@ -188,7 +189,8 @@ public final class TermsBoundaryTest extends Rig {
         dueText(two + "riser 0 1 1 1", 36);
         dueText(two + "chill 0 1 1", 34);
         dueText("rule 1 1 1 1", 11);
-        for (String other : new String[] {"cast", "castings", "sectio", "sections", "join", "joints", "rise", "risers", "chil", "chills", "rul", "rules", "pass"}) {
+        for (String other : new String[] {"cast", "castings", "sectio", "sections", "join", "joints", "rise", "risers", "chil", "chills", "rul", "rules", "pass",
+            "gasting", "tection", "point", "miser", "shill", "mule"}) {
             dueText(other, 0);
         }
     }
@@ -621,6 +623,9 @@ public final class TermsBoundaryTest extends Rig {
         // 0 goes from 8 to 9 and no more: 90/99 is above the 45/50 of 1, what 17 would not be.
         FeedCheck full = cast("section 90 9;section 45 50;section 99 1;joint 0 1;joint 1 2;chill 0 8");
         due("9 at most", full.best(9, 1), 2);
+        // 0 goes from 89/89 to 89/99, below the 19/20 of 1: the ninth chill counts yet.
+        FeedCheck ninth = cast("section 89 9;section 19 20;section 99 1;joint 0 1;joint 1 2;chill 0 8");
+        due("9 just", ninth.best(9, 1), 1);
         due("9 more than 9", cast("section 90 9;chill 0 9").best(9, 0), 0);
     }
 

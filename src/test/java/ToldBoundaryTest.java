@@ -175,6 +175,7 @@ public final class ToldBoundaryTest extends Rig {
         }
         x.chill(0, 9);
         due("99 by 189", x.section(0, 4), 11);
+        due("2 by 98, halved", cast("section 2 98").section(0, 4), 1);
     }
 
     @Says(promise = 6, value = "below (5)")
@@ -186,6 +187,7 @@ public final class ToldBoundaryTest extends Rig {
         }
         x.chill(2, 9);
         due("1 by 189, the greatest", x.section(2, 5), 189);
+        due("2 by 98, halved", cast("section 2 98").section(0, 5), 49);
     }
 
     @Says(promise = 6, value = "1 it is a TOP (6)")
