@@ -16,7 +16,7 @@ abstract class Rig {
     protected static int wrong = 0;
     protected static String promise = "";
 
-    /** The words of the document that a test stands for; promise 0 are the terms. */
+    /** The words of the document that a test stands for; promise 0 are the terms, -1 the opening. */
     @Retention(RetentionPolicy.RUNTIME)
     @interface Says {
         int promise();

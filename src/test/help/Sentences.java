@@ -5,7 +5,7 @@ import java.util.ArrayList;
 import java.util.Arrays;
 import java.util.List;
 
-/** The document's terms and promises, word by word: which words the tests quote, and which none does. */
+/** The document's opening, terms and promises, word by word: which words the tests quote, and which none does. */
 final class Sentences {
     private final String document;
     private final int first;
@@ -19,9 +19,18 @@ final class Sentences {
         this.first = first;
         this.last = last;
         for (int promise = first; promise <= last; promise++) {
-            String body = (promise == 0 ? terms() : promised(promise)).replaceAll("\\s+", " ");
+            String body = said(promise).replaceAll("\\s+", " ");
             bodies.add(body);
             quoted.add(new boolean[body.length()]);
+        }
+    }
+
+    /** Ahead of the promises stand the opening (-1) and the terms (0). */
+    private String said(int promise) {
+        switch (promise) {
+            case -1: return between("\n## What it is\n", "======== 1 ");
+            case 0: return terms();
+            default: return promised(promise);
         }
     }
 
